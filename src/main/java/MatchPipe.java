@@ -421,7 +421,7 @@ public final class MatchPipe {
     }
 
     private static boolean hasBit(int bits, int i) {
-        return i >= 0 && i < 32 && (bits >>> i & 1) == 1;
+        return i >= 0 && i < 32 && ((bits >>> i) & 1) == 1;
     }
 
     /** Bytes held four to a word, since a word's worth of them costs one element of the room. */
@@ -440,7 +440,7 @@ public final class MatchPipe {
             if (isOutside(at, width)) {
                 return 0;
             }
-            return (int) (pairAt(at >> 5) >>> 64 - (at & 31) - width) & -1 >>> 32 - width;
+            return (int) (pairAt(at >> 5) >>> (64 - (at & 31) - width)) & (-1 >>> (32 - width));
         }
 
         void put(int at, int width, int word) {
@@ -449,8 +449,8 @@ public final class MatchPipe {
             }
             int i = at >> 5;
             int shift = 64 - (at & 31) - width;
-            long ones = (-1L >>> 64 - width) << shift;
-            long pair = pairAt(i) & ~ones | (long) word << shift & ones;
+            long ones = (-1L >>> (64 - width)) << shift;
+            long pair = (pairAt(i) & ~ones) | (((long) word << shift) & ones);
             words[i] = (int) (pair >>> 32);
             if (i + 1 < words.length) {
                 words[i + 1] = (int) pair;
@@ -463,7 +463,7 @@ public final class MatchPipe {
 
         private long pairAt(int i) {
             long low = i + 1 < words.length ? words[i + 1] & 0xFFFFFFFFL : 0;
-            return (long) words[i] << 32 | low;
+            return ((long) words[i] << 32) | low;
         }
     }
 
@@ -546,7 +546,7 @@ public final class MatchPipe {
             for (int i = 0; i < doingCount; i++) {
                 switch (kind[i]) {
                     case GROW:
-                        bits |= 1 << x[i] | 1 << y[i];
+                        bits |= (1 << x[i]) | (1 << y[i]);
                         break;
                     case COPY:
                     case GROW_WORD:
@@ -715,7 +715,7 @@ public final class MatchPipe {
 
         private boolean isBetter(Entry one, Entry other) {
             int more = prefixOnes(one) - prefixOnes(other);
-            return more > 0 || more == 0 && one.priority > other.priority;
+            return more > 0 || (more == 0 && one.priority > other.priority);
         }
 
         private int prefixOnes(Entry entry) {
@@ -739,7 +739,7 @@ public final class MatchPipe {
                 return mask == ones;
             }
             int rest = ones & ~mask;
-            return how == MASKED || (rest & rest + 1) == 0;
+            return how == MASKED || (rest & (rest + 1)) == 0;
         }
     }
 
@@ -831,7 +831,7 @@ public final class MatchPipe {
         }
 
         int ones(int field) {
-            return -1 >>> 32 - width[field];
+            return -1 >>> (32 - width[field]);
         }
 
         boolean canDo(int kind, int x, int y, int z) {
@@ -859,7 +859,7 @@ public final class MatchPipe {
                 return 1 << step.tested;
             }
             Table table = tables[step.table];
-            int bits = 1 << table.keyF | (table.keyG == NONE ? 0 : 1 << table.keyG);
+            int bits = (1 << table.keyF) | (table.keyG == NONE ? 0 : 1 << table.keyG);
             for (int i = 0; i < actionCount; i++) {
                 bits |= hasBit(table.actions, i) ? actions[i].reads() : 0;
             }
@@ -1116,7 +1116,7 @@ public final class MatchPipe {
                         words[x] = words[y] & program.ones(x);
                         break;
                     case GROW:
-                        words[x] = words[x] + words[y] + z & program.ones(x);
+                        words[x] = (words[x] + words[y] + z) & program.ones(x);
                         break;
                     case TAKE_DATUM:
                         words[x] = datum(entry, y) & program.ones(x);
@@ -1148,7 +1148,7 @@ public final class MatchPipe {
         }
 
         private static int wordOf(int array, int i) {
-            return array * ARRAY_WORDS + (i & ARRAY_WORDS - 1);
+            return array * ARRAY_WORDS + (i & (ARRAY_WORDS - 1));
         }
     }
 
@@ -1226,7 +1226,7 @@ public final class MatchPipe {
         }
 
         Operation placeOf(int operation) {
-            return places[operation & PLACES - 1];
+            return places[operation & (PLACES - 1)];
         }
 
         Operation nextPlace() {
@@ -1251,7 +1251,7 @@ public final class MatchPipe {
         }
 
         private Header headerOf(int operation) {
-            return headers[operation & HEADERS - 1];
+            return headers[operation & (HEADERS - 1)];
         }
 
         private int enter() {
