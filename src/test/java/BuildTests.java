@@ -102,6 +102,16 @@ public final class BuildTests {
         Check.due("actions have lost their doings", 0, () -> y.word(0, 0));
         Check.due("cycles begin again", 4, () -> y.count(4));
         Check.due("the first cycle is 0 again", 1, () -> y.out(0, 4));
+
+        MatchPipe z = new MatchPipe();
+        z.feed(-1, -1, -1, -1, -1);
+        z.clear();
+        z.state(NONE, NONE, NONE, NONE, NONE);
+        z.lay();
+        z.end(1);
+        z.packet();
+        z.run(2);
+        Check.due("what was ready is 0 again", 0, () -> z.byteAt(0, 0));
     }
 
     private static void fields() {
@@ -289,7 +299,8 @@ public final class BuildTests {
             {0, 0, 5, 1, 0}, {2, NONE, 99, 1, 0},
         };
         for (int[] t : noIndex) {
-            Check.due("table " + java.util.Arrays.toString(t), Check.INDEX, () -> x.table(t[0], t[1], t[2], t[3], t[4]));
+            Check.due("table " + java.util.Arrays.toString(t), Check.INDEX,
+                () -> x.table(t[0], t[1], t[2], t[3], t[4]));
         }
         int[] badHow = {3, 7, 11, 12, 15, -1, -4, 16, Integer.MIN_VALUE, 5, 1 << 30};
         for (int how : badHow) {

@@ -6,7 +6,9 @@ import java.util.function.IntSupplier;
 public final class ModelTests {
     private static final int RUNS = 3000;
     private static final int NONE = MatchPipe.NONE;
-    private static final int[] EDGES = {0, 1, -1, 2, 3, 7, 8, 15, 16, 255, 256, -2, -3, Integer.MIN_VALUE, Integer.MAX_VALUE};
+    private static final int[] EDGES = {
+        0, 1, -1, 2, 3, 7, 8, 15, 16, 255, 256, -2, -3, Integer.MIN_VALUE, Integer.MAX_VALUE,
+    };
 
     private final Random random;
     private final int seed;
@@ -44,8 +46,10 @@ public final class ModelTests {
             }
         }
         System.out.println("faults of each kind: " + Arrays.toString(faults));
-        System.out.println(laidRuns + " were laid, " + wholePackets + " packets and " + entriesTaken + " entries went through");
-        Check.same("runs are worth it", "true", "" + (laidRuns > RUNS / 2 && wholePackets > RUNS && entriesTaken > RUNS));
+        System.out.println(laidRuns + " were laid, " + wholePackets + " packets and " + entriesTaken
+            + " entries went through");
+        Check.same("runs are worth it", "true",
+            "" + (laidRuns > RUNS / 2 && wholePackets > RUNS && entriesTaken > RUNS));
         Check.close("ModelTests");
     }
 
