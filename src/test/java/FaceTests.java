@@ -2,11 +2,9 @@ import java.lang.reflect.Constructor;
 import java.lang.reflect.Field;
 import java.lang.reflect.Method;
 import java.lang.reflect.Modifier;
-import java.util.ArrayList;
 import java.util.Arrays;
-import java.util.HashSet;
-import java.util.List;
 import java.util.Set;
+import java.util.TreeSet;
 
 /** The face is that of the document, and there is nothing else to be seen from outside. */
 public final class FaceTests {
@@ -18,38 +16,65 @@ public final class FaceTests {
     };
 
     public static void main(String[] args) {
-        Set<String> names = new HashSet<>();
-        List<String> open = new ArrayList<>();
-        for (Method m : MatchPipe.class.getDeclaredMethods()) {
-            if (!Modifier.isPrivate(m.getModifiers()) && !m.isSynthetic()) {
-                open.add(m.getName() + "/" + m.getParameterCount() + "/" + m.getReturnType());
-                names.add(m.getName());
-                Check.same(m + " is public, of the object", "true",
-                    "" + (Modifier.isPublic(m.getModifiers()) && !Modifier.isStatic(m.getModifiers())));
-            }
-        }
-        for (Method m : MatchPipe.class.getDeclaredMethods()) {
-            if (Modifier.isPrivate(m.getModifiers())) {
-                Check.same(m + " has a name of its own", "false", "" + names.contains(m.getName()));
-            }
-        }
-        String[] want = FACE.clone();
-        String[] got = open.toArray(new String[0]);
-        Arrays.sort(want);
-        Arrays.sort(got);
-        Check.same("the methods", Arrays.toString(want), Arrays.toString(got));
-        for (Field f : MatchPipe.class.getDeclaredFields()) {
-            boolean constant = f.getName().equals("NONE");
-            Check.same(f + " is private but for NONE", "" + !constant, "" + Modifier.isPrivate(f.getModifiers()));
-        }
-        Constructor<?>[] made = MatchPipe.class.getDeclaredConstructors();
-        Check.due("the constructors", 1, () -> made.length);
-        Check.due("NONE", -1, () -> MatchPipe.NONE);
-        Check.same("the class is final", "true", "" + Modifier.isFinal(MatchPipe.class.getModifiers()));
-        for (Class<?> c : MatchPipe.class.getDeclaredClasses()) {
-            Check.same(c + " is static and not public", "true",
-                "" + (Modifier.isStatic(c.getModifiers()) && !Modifier.isPublic(c.getModifiers())));
-        }
+        Check.begin("the face");
+        methods();
+        privateNames();
+        fields();
+        constructors();
+        classes();
         Check.close("FaceTests");
+    }
+
+    private static void methods() {
+        Set<String> open = new TreeSet<>();
+        for (Method m : MatchPipe.class.getDeclaredMethods()) {
+            if (isHidden(m.getModifiers()) || m.isSynthetic()) {
+                continue;
+            }
+            open.add(m.getName() + "/" + m.getParameterCount() + "/" + m.getReturnType());
+            Check.same(m + " is of the object", true, isPublic(m.getModifiers()) && !Modifier.isStatic(m.getModifiers()));
+            for (Class<?> type : m.getParameterTypes()) {
+                Check.same("what " + m.getName() + " takes", int.class, type);
+            }
+        }
+        Check.same("the methods", new TreeSet<>(Arrays.asList(FACE)), open);
+    }
+
+    private static void privateNames() {
+        for (Method m : MatchPipe.class.getDeclaredMethods()) {
+            boolean taken = Arrays.stream(FACE).anyMatch(one -> one.startsWith(m.getName() + "/"));
+            Check.same(m + " has a name of its own", false, isHidden(m.getModifiers()) && taken);
+        }
+    }
+
+    private static void fields() {
+        for (Field f : MatchPipe.class.getDeclaredFields()) {
+            Check.same(f + " is private but for NONE", !f.getName().equals("NONE"), isHidden(f.getModifiers()));
+        }
+        Check.same("NONE", -1, MatchPipe.NONE);
+    }
+
+    private static void constructors() {
+        int open = 0;
+        for (Constructor<?> c : MatchPipe.class.getDeclaredConstructors()) {
+            open += isHidden(c.getModifiers()) ? 0 : 1;
+        }
+        Check.same("the constructors", 1, open);
+    }
+
+    private static void classes() {
+        Check.same("the class is public", true, isPublic(MatchPipe.class.getModifiers()));
+        Check.same("the class is final", true, Modifier.isFinal(MatchPipe.class.getModifiers()));
+        for (Class<?> c : MatchPipe.class.getDeclaredClasses()) {
+            Check.same(c + " is public", false, isPublic(c.getModifiers()));
+        }
+    }
+
+    private static boolean isHidden(int modifiers) {
+        return Modifier.isPrivate(modifiers);
+    }
+
+    private static boolean isPublic(int modifiers) {
+        return Modifier.isPublic(modifiers);
     }
 }

@@ -1,333 +1,390 @@
 /** Promises 12 to 14: stages, and the faults of laying. */
 public final class LayTests {
-    private static final int NONE = MatchPipe.NONE;
+    private static final int MIN = Integer.MIN_VALUE;
+    private static final int MAX = Integer.MAX_VALUE;
+    private static final String READER = "state(-1,-1,-1,-1,-1) -> 0";
+    private static final String FOUR = "field(8); field(8); field(8); field(8); " + READER;
 
     public static void main(String[] args) {
-        nothingToLay();
-        missingStates();
-        emptyRounds();
-        testsThatGoNowhere();
-        tablesTwice();
-        sharedArrays();
-        stagesByWrites();
-        stagesByPortAndDrop();
-        threeInAStage();
-        behindTests();
-        thirteenStages();
-        theFirstFault();
-        Check.close("LayTests");
+        Promises.test(LayTests.class, 12, 14);
     }
 
-    private static MatchPipe withFields(int n) {
-        MatchPipe x = new MatchPipe();
-        for (int i = 0; i < n; i++) {
-            x.field(8);
-        }
-        return x;
-    }
-
-    private static MatchPipe ready(int n) {
-        MatchPipe x = withFields(n);
-        x.state(NONE, NONE, NONE, NONE, NONE);
-        return x;
-    }
-
-    /** A step that does a table of its own, by key f, with one action of one doing. */
-    private static int step(MatchPipe x, int f, int kind, int a, int b, int c) {
-        int action = x.action();
-        x.doing(action, kind, a, b, c);
-        return x.apply(x.table(f, NONE, 0, 1 << action, action));
-    }
-
-    private static void faultIs(String what, MatchPipe x, int fault, int place) {
-        Check.due(what + ": lay", Check.ARGUMENT, x::lay);
-        Check.due(what + ": fault", fault, () -> x.fault(0));
-        Check.due(what + ": place", place, () -> x.fault(1));
-        Check.due(what + ": no stages", 0, () -> x.count(5));
-        Check.due(what + ": no stage", NONE, () -> x.stage(0));
-        Check.due(what + ": not laid", Check.STATE, x::packet);
-    }
-
-    private static void stagesAre(String what, MatchPipe x, int... stages) {
+    private static Run laid(Run run, int... stages) {
         int last = stages.length == 0 ? 0 : stages[stages.length - 1];
-        Check.due(what + ": not laid yet", NONE, () -> x.stage(0));
-        Check.due(what + ": lay", last + 1, x::lay);
-        Check.due(what + ": fault", 0, () -> x.fault(0));
-        Check.due(what + ": place", NONE, () -> x.fault(1));
-        Check.due(what + ": count", last + 1, () -> x.count(5));
-        for (int i = 0; i < stages.length; i++) {
-            int step = i;
-            Check.due(what + ": stage of " + i, stages[i], () -> x.stage(step));
+        run.then("stage(0) -> NONE", "count(5) -> 0", "lay() -> " + (last + 1), "fault(0) -> 0", "fault(1) -> NONE",
+            "count(5) -> " + (last + 1));
+        for (int step = 0; step < stages.length; step++) {
+            run.then("stage(" + step + ") -> " + stages[step]);
         }
-        Check.due(what + ": no such step", NONE, () -> x.stage(stages.length));
-        Check.due(what + ": no step below 0", NONE, () -> x.stage(-1));
-        Check.due(what + ": laid", Check.STATE, x::lay);
-        Check.due(what + ": still no fault", 0, () -> x.fault(0));
+        return run.then("stage(-1) -> NONE", "stage(" + stages.length + ") -> NONE");
     }
 
-    private static void nothingToLay() {
-        MatchPipe x = new MatchPipe();
-        Check.due("fault before lay", 0, () -> x.fault(0));
-        Check.due("place before lay", NONE, () -> x.fault(1));
-        faultIs("no state", x, 1, 0);
-        Check.due("fault 2", NONE, () -> x.fault(2));
-        Check.due("fault -1", NONE, () -> x.fault(-1));
-        x.state(NONE, NONE, NONE, NONE, NONE);
-        stagesAre("no step", x);
+    private static Run faulty(Run run, int fault, int place) {
+        return run.then("lay() -> IAE", "fault(0) -> " + fault, "fault(1) -> " + place, "count(5) -> 0",
+            "stage(0) -> NONE", "packet() -> ISE", "run(1) -> ISE");
     }
 
-    private static void missingStates() {
-        MatchPipe x = withFields(1);
-        x.state(NONE, NONE, NONE, NONE, 0);
-        x.state(NONE, NONE, NONE, NONE, 0);
-        x.state(NONE, NONE, NONE, NONE, NONE);
-        x.otherwise(2, 3);
-        faultIs("otherwise", x, 1, 2);
-        x.choice(1, 0, 0, 7);
-        faultIs("a case", x, 1, 1);
-        MatchPipe y = withFields(1);
-        y.state(NONE, NONE, NONE, NONE, NONE);
-        y.choice(0, 0, 0, 1);
-        faultIs("a case that does not choose", y, 1, 0);
-        y.state(NONE, NONE, NONE, NONE, NONE);
-        stagesAre("now it is there", y);
+    /** Steps that each do a table with one key and one action of one doing: "key: doing". */
+    private static Run steps(String... texts) {
+        Run run = new Run(FOUR);
+        for (int i = 0; i < texts.length; i++) {
+            String[] parts = texts[i].split(": ");
+            run.tableStep(i, Integer.parseInt(parts[0]), parts[1]);
+        }
+        return run;
     }
 
-    private static void emptyRounds() {
-        MatchPipe x = withFields(1);
-        x.state(NONE, NONE, NONE, NONE, 0);
-        x.state(NONE, NONE, NONE, NONE, 0);
-        x.state(NONE, NONE, NONE, NONE, NONE);
-        x.state(0, NONE, NONE, NONE, NONE);
-        x.otherwise(3, 0);
-        x.otherwise(0, 1);
-        x.choice(1, 3, -1, 2);
-        x.otherwise(2, 1);
-        faultIs("1 to 2 to 1; 0 only comes there", x, 2, 1);
-        x.otherwise(2, 3);
-        stagesAre("a field on the way round", x);
+    static void promise12_lay_noStepIsOneStage() {
+        laid(new Run(READER)).then("packet() -> 0", "run(1) -> 0", "run(1) -> 1").out(0, 0, 0, 0, 0, 1);
+    }
 
-        MatchPipe y = withFields(1);
-        y.state(0, NONE, NONE, NONE, NONE);
-        y.state(NONE, NONE, NONE, NONE, NONE);
-        y.choice(1, 0, 0, 1);
-        y.otherwise(0, 0);
-        stagesAre("cases that don't count, and a field round itself", y);
+    static void promise12_lay_whenLaid() {
+        laid(new Run(READER, "field(8)", "test(0,0,0,1)"), 0).then("lay() -> ISE", "lay() -> ISE", "count(5) -> 1",
+            "stage(0) -> 0", "fault(0) -> 0", "fault(1) -> NONE");
+    }
 
-        MatchPipe z = withFields(1);
+    static void promise12_lay_threeStepsInAStage() {
+        laid(steps("0: 7,0,0,1", "0: 7,1,0,1", "0: 7,2,0,1"), 0, 0, 0);
+    }
+
+    static void promise12_lay_aFourthStepIsInTheNextStage() {
+        laid(steps("0: 7,0,0,1", "0: 7,1,0,1", "0: 7,2,0,1", "0: 7,3,0,1"), 0, 0, 0, 1);
+        Run run = new Run(FOUR, "action()").times(8, "table(0,-1,0,1,0); apply(#)");
+        laid(run, 0, 0, 0, 1, 1, 1, 2, 2);
+    }
+
+    static void promise12_lay_noneBehindATest() {
+        Run run = new Run(FOUR, "action()").times(4, "table(0,-1,0,1,0)");
+        laid(run.then("apply(0)", "test(0,0,0,6)", "apply(1)", "apply(2)", "test(0,0,0,6)", "apply(3)"), 0, 0, 1, 1, 1, 2);
+        laid(new Run(FOUR, "test(0,0,0,1)", "test(0,0,0,2)"), 0, 1);
+    }
+
+    static void promise12_lay_aTestMayBeTheThird() {
+        Run run = new Run(FOUR, "action()").times(3, "table(0,-1,0,1,0)");
+        laid(run.then("apply(0)", "apply(1)", "test(0,0,0,4)", "apply(2)"), 0, 0, 0, 1);
+        Run four = new Run(FOUR, "action()").times(3, "table(0,-1,0,1,0); apply(#)");
+        laid(four.then("test(0,0,0,4)"), 0, 0, 0, 1);
+    }
+
+    static void promise12_lay_aKeyThatWasWrittenAhead() {
+        for (String writer : new String[] {"0,2,1,0", "1,2,1,0", "2,2,1,0", "3,2,1,0", "8,2,1,0"}) {
+            laid(steps("0: " + writer, "2: 4,0,0,0"), 0, 1);
+            laid(steps("0: " + writer, "1: 4,0,0,0"), 0, 0);
+        }
+    }
+
+    static void promise12_lay_aSecondKeyThatWasWrittenAhead() {
+        laid(steps("0: 0,2,0,0").then("action()", "table(0,2,0,2,1)", "apply(1)"), 0, 1);
+        laid(steps("0: 0,2,0,0").then("action()", "table(0,3,0,2,1)", "apply(1)"), 0, 0);
+    }
+
+    static void promise12_lay_aFieldThatIsWrittenTwice() {
+        for (String writer : new String[] {"0,2,1,0", "1,2,1,0", "2,2,1,0", "3,2,1,0", "8,2,1,0"}) {
+            laid(steps("0: " + writer, "0: 0,2,0,0"), 0, 1);
+            laid(steps("0: 0,2,0,0", "0: " + writer), 0, 1);
+            laid(steps("0: 0,3,0,0", "0: " + writer), 0, 0);
+        }
+    }
+
+    static void promise12_lay_aTestOfAFieldThatWasWrittenAhead() {
+        laid(steps("0: 0,2,0,0").then("test(2,0,0,2)"), 0, 1);
+        laid(steps("0: 0,2,0,0").then("test(3,0,0,2)"), 0, 0);
+    }
+
+    static void promise12_lay_aDoingThatReadsWhatWasWrittenAhead() {
+        for (String reader : new String[] {"1,3,2,0", "2,3,2,0", "7,1,2,0", "8,3,2,0", "2,2,3,0"}) {
+            laid(steps("0: 0,2,0,0", "0: " + reader), 0, 1);
+        }
+    }
+
+    static void promise12_lay_whatADoingDoesNotRead() {
+        String[] others = {"0,3,2,2", "1,3,0,2", "2,3,0,2", "3,3,1,2", "4,2,2,2", "5,2,1,2", "6,2,2,2", "7,2,0,2", "8,3,0,2"};
+        for (String other : others) {
+            laid(steps("0: 0,2,0,0", "0: " + other), 0, 0);
+        }
+        laid(steps("0: 0,1,0,0", "0: 3,3,1,1"), 0, 0);
+    }
+
+    static void promise12_lay_whatADoingDoesNotWrite() {
+        for (String doing : new String[] {"4,2,2,2", "5,2,1,2", "6,2,2,2", "7,2,1,2"}) {
+            laid(steps("0: " + doing, "2: 0,3,0,0"), 0, 0);
+        }
+    }
+
+    static void promise12_lay_portAndDropAreWrittenAsFields() {
+        laid(steps("0: 4,0,1,0", "0: 4,0,2,0"), 0, 1);
+        laid(steps("0: 4,0,1,0", "0: 5,0,1,0"), 0, 1);
+        laid(steps("0: 5,0,1,0", "0: 4,0,1,0"), 0, 1);
+        laid(steps("0: 5,0,1,0", "0: 5,0,0,0"), 0, 1);
+        laid(steps("0: 6,0,0,0", "0: 6,0,0,0"), 0, 1);
+        laid(steps("0: 4,0,1,0", "0: 6,0,0,0"), 0, 0);
+        laid(steps("0: 6,0,0,0", "0: 5,0,0,0"), 0, 0);
+    }
+
+    static void promise12_lay_readAheadAndWrittenBehind() {
+        laid(steps("2: 4,0,0,0", "0: 0,2,0,0"), 0, 0);
+        laid(steps("0: 1,3,2,0", "0: 0,2,0,0"), 0, 0);
+    }
+
+    static void promise12_lay_aStepMayReadWhatItWritesItself() {
+        laid(steps("2: 2,2,2,1"), 0);
+    }
+
+    static void promise12_lay_whatTheFirstOfThreeWrites() {
+        laid(steps("0: 0,2,0,0", "0: 0,3,0,0", "2: 4,0,0,0"), 0, 0, 1);
+    }
+
+    static void promise12_lay_whatWasWrittenAStageAhead() {
+        laid(steps("0: 0,2,0,0", "2: 0,3,0,0", "2: 4,0,0,0"), 0, 1, 1);
+    }
+
+    static void promise12_lay_stepsGoBackToNoStage() {
+        laid(steps("0: 0,2,0,0", "2: 0,3,0,0", "0: 4,0,0,0"), 0, 1, 1);
+    }
+
+    static void promise12_lay_eachActionThatATableMayDo() {
+        laid(new Run(FOUR, "action()", "action()", "doing(1,0,2,9,0)", "table(0,-1,0,3,0)", "table(2,-1,0,1,0)",
+            "table(2,-1,0,1,0)", "apply(0)", "apply(1)"), 0, 1);
+        laid(new Run(FOUR, "action()", "action()", "doing(1,0,2,9,0)", "table(0,-1,0,1,0)", "table(2,-1,0,1,0)",
+            "apply(0)", "apply(1)"), 0, 0);
+    }
+
+    static void promise12_lay_eachOfFourDoings() {
+        for (int place = 0; place < 4; place++) {
+            Run run = new Run(FOUR, "action()", "action()");
+            for (int i = 0; i < 4; i++) {
+                run.then(i == place ? "doing(0,0,2,9,0)" : "doing(0,7,0,0,1)");
+            }
+            laid(run.then("table(0,-1,0,1,0)", "table(2,-1,0,2,1)", "apply(0)", "apply(1)"), 0, 1);
+        }
+    }
+
+    static void promise12_lay_field15() {
+        Run run = new Run().times(16, "field(2)").then(READER).tableStep(0, 0, "0,15,0,0").tableStep(1, 15, "4,0,0,0");
+        laid(run, 0, 1);
+    }
+
+    static void promise12_lay_twelveStages() {
+        Run run = new Run("field(8)", READER).times(12, "test(0,0,0,12)");
+        laid(run, 0, 1, 2, 3, 4, 5, 6, 7, 8, 9, 10, 11).then("packet()", "run(12) -> 0", "run(1) -> 1").out(0, 0, 0, 0, 0, 12);
+    }
+
+    static void promise12_lay_aFaultLeavesItOpen() {
+        faulty(new Run("field(8)"), 1, 0).then("field(8) -> 1", READER, "action() -> 0", "table(0,-1,0,1,0) -> 0",
+            "apply(0) -> 0", "otherwise(0,-2) -> nothing", "lay() -> 1", "fault(0) -> 0", "fault(1) -> NONE");
+    }
+
+    static void promise13_fault_beforeTheFirstLay() {
+        new Run("fault(0) -> 0", "fault(1) -> NONE", READER, "fault(0) -> 0", "fault(1) -> NONE");
+    }
+
+    static void promise13_fault_anotherWhat() {
+        new Run().each("fault(#) -> NONE", -1, 2, 3, MIN, MAX).then("lay() -> IAE")
+            .each("fault(#) -> NONE", -1, 2, 3, MIN, MAX).then(READER, "lay()").each("fault(#) -> NONE", -1, 2, MIN, MAX);
+    }
+
+    static void promise13_fault_goneBehindAGoodLay() {
+        laid(faulty(new Run(), 1, 0).then("fault(0) -> 1", READER)).then("lay() -> ISE", "fault(0) -> 0");
+    }
+
+    static void promise13_fault_staysUntilTheNextLay() {
+        faulty(new Run("field(8)"), 1, 0).then(READER, "fault(0) -> 1", "fault(1) -> 0", "test(0,0,0,0)", "fault(0) -> 1");
+        faulty(faulty(new Run("field(8)", "test(0,0,0,0)"), 1, 0).then(READER), 3, 0);
+    }
+
+    static void promise13_fault1_noStateAtAll() {
+        faulty(new Run(), 1, 0);
+    }
+
+    static void promise13_fault1_otherwiseTellsOfAStateThatIsNotThere() {
+        Run run = new Run("field(8)").times(3, "state(0,-1,-1,-1,-1)");
+        faulty(run.then("otherwise(2,3)"), 1, 2).then("otherwise(2,2)");
+        laid(run);
+        faulty(new Run(READER, "otherwise(0,7)"), 1, 0);
+        faulty(new Run(READER, "otherwise(0,1)"), 1, 0);
+    }
+
+    static void promise13_fault1_aCaseTellsOfAStateThatIsNotThere() {
+        for (int place = 0; place < 4; place++) {
+            Run run = new Run("field(8)", "state(0,-1,-1,-1,0)", "state(0,-1,-1,-1,0)");
+            for (int i = 0; i < 4; i++) {
+                run.then("choice(1," + i + ",255," + (i == place ? 2 : 1) + ")");
+            }
+            faulty(run, 1, 1);
+        }
+    }
+
+    static void promise13_fault1_theLeastStateThatTellsOfOne() {
+        faulty(new Run("field(8)").times(4, "state(0,-1,-1,-1,0)").then("otherwise(3,4)", "choice(1,0,0,7)",
+            "otherwise(2,5)"), 1, 1);
+    }
+
+    static void promise13_fault1_aCaseOfOneThatChoosesByNone() {
+        faulty(new Run(READER, "choice(0,0,0,1)"), 1, 0);
+    }
+
+    static void promise13_fault1_allEightAreThere() {
+        Run run = new Run("field(8)").times(8, "state(0,-1,-1,-1,-1); otherwise(#,7)");
+        laid(run);
+    }
+
+    static void promise13_fault1_acceptAndRejectAreNoStates() {
+        laid(new Run("field(8)", "state(0,-1,-1,-1,0)", "choice(0,0,0,-1)", "choice(0,0,0,-2)", "otherwise(0,-2)"));
+    }
+
+    static void promise13_fault2_aStateThatComesToItself() {
+        faulty(new Run(READER, "otherwise(0,0)"), 2, 0);
+        faulty(new Run("field(8)", "state(-1,-1,-1,-1,0)", "choice(0,3,255,0)"), 2, 0);
+    }
+
+    static void promise13_fault2_theLeastThatComesToItself() {
+        Run run = new Run("field(8)", "state(-1,-1,-1,-1,0)", "state(-1,-1,-1,-1,0)", "state(-1,-1,-1,-1,-1)",
+            "otherwise(0,2)", "choice(1,3,255,2)", "otherwise(2,1)");
+        faulty(run, 2, 1).then("otherwise(2,-1)");
+        laid(run);
+    }
+
+    static void promise13_fault2_allEightStates() {
+        Run run = new Run("field(8)").times(8, "state(-1,-1,-1,-1,0)");
         for (int i = 0; i < 8; i++) {
-            z.state(NONE, NONE, NONE, NONE, 0);
+            run.then("choice(" + i + ",9,255," + (i + 7) % 8 + ")");
         }
-        for (int i = 1; i < 8; i++) {
-            z.choice(i, i, -1, i - 1);
+        faulty(run, 2, 0);
+        Run there = new Run("field(8)").times(8, "state(-1,-1,-1,-1,0)");
+        for (int i = 0; i < 8; i++) {
+            there.then("otherwise(" + i + "," + (i + 1) % 8 + ")");
         }
-        z.choice(0, 0, 0, 7);
-        faultIs("all eight", z, 2, 0);
-
-        MatchPipe w = withFields(1);
-        w.state(NONE, NONE, NONE, NONE, NONE);
-        w.state(NONE, NONE, NONE, NONE, NONE);
-        w.otherwise(1, 1);
-        faultIs("one that reading never comes to", w, 2, 1);
+        faulty(there, 2, 0);
     }
 
-    private static void testsThatGoNowhere() {
-        int[] bad = {0, 1, -1, 4, 16, Integer.MAX_VALUE, Integer.MIN_VALUE};
-        for (int to : bad) {
-            MatchPipe x = ready(1);
-            x.test(0, 0, 0, 3);
-            x.test(0, 0, 0, to);
-            x.test(0, 0, 0, 99);
-            faultIs("to " + to, x, 3, 1);
-        }
-        MatchPipe y = ready(1);
-        y.test(0, 0, 0, 3);
-        y.test(0, 0, 0, 2);
-        y.test(0, 0, 0, 3);
-        stagesAre("to the end", y, 0, 1, 2);
+    static void promise13_fault2_aWayThroughEightStatesThatEnds() {
+        Run run = new Run().times(8, "state(-1,-1,-1,-1,-1)").times(7, "otherwise(#,7)");
+        run.then("otherwise(0,1)", "otherwise(1,2)", "otherwise(2,3)", "otherwise(3,4)", "otherwise(4,5)",
+            "otherwise(5,6)", "otherwise(6,7)");
+        laid(run).then("packet()", "run(2)", "out(0,1) -> 0");
     }
 
-    private static void tablesTwice() {
-        MatchPipe x = ready(1);
-        x.action();
-        x.table(0, NONE, 0, 1, 0);
-        x.table(0, NONE, 0, 1, 0);
-        x.apply(0);
-        x.apply(1);
-        x.test(0, 0, 0, 4);
-        x.apply(1);
-        x.apply(0);
-        faultIs("table 1 comes twice first", x, 4, 3);
+    static void promise13_fault2_aFieldOnTheWay() {
+        laid(new Run("field(8)", "state(0,-1,-1,-1,-1)", "otherwise(0,0)"));
+        laid(new Run("field(8)", "state(-1,-1,-1,-1,-1)", "state(0,-1,-1,-1,-1)", "otherwise(0,1)", "otherwise(1,0)"));
     }
 
-    private static void sharedArrays() {
-        MatchPipe x = ready(2);
-        step(x, 0, 7, 3, 1, 1);
-        step(x, 0, 7, 2, 1, 1);
-        step(x, 0, 8, 1, 0, 3);
-        faultIs("array 3, by 7 and by 8", x, 5, 3);
-        step(x, 0, 8, 1, 0, 2);
-        faultIs("array 2 is the least", x, 5, 2);
-
-        MatchPipe y = ready(2);
-        step(y, 0, 7, 0, 1, 1);
-        int action = y.action();
-        y.doing(action, 7, 0, 1, 1);
-        y.table(0, NONE, 0, 1 << action, action);
-        stagesAre("one of the tables has no step", y, 0);
-
-        MatchPipe z = ready(2);
-        int both = z.action();
-        z.doing(both, 7, 1, 0, 1);
-        z.doing(both, 8, 1, 0, 1);
-        z.apply(z.table(0, NONE, 0, 1, 0));
-        stagesAre("one table twice", z, 0);
+    static void promise13_fault2_casesOfOneThatChoosesByNone() {
+        laid(new Run(READER, "choice(0,0,0,0)"));
+        laid(new Run(READER, "state(-1,-1,-1,-1,-1)", "choice(0,0,0,1)", "otherwise(1,0)"));
     }
 
-    private static void stagesByWrites() {
-        int[][] doings = {{0, 2, 1, 0}, {1, 2, 1, 0}, {2, 2, 1, 0}, {3, 2, 1, 0}, {8, 2, 1, 0}};
-        for (int[] d : doings) {
-            MatchPipe x = ready(4);
-            step(x, 0, d[0], d[1], d[2], d[3]);
-            step(x, 2, 0, 3, 0, 0);
-            stagesAre("kind " + d[0] + " writes x, read as a key", x, 0, 1);
-            MatchPipe y = ready(4);
-            step(y, 0, d[0], d[1], d[2], d[3]);
-            step(y, 0, 0, 2, 0, 0);
-            stagesAre("kind " + d[0] + " writes x, written again", y, 0, 1);
-            MatchPipe z = ready(4);
-            step(z, 0, d[0], d[1], d[2], d[3]);
-            step(z, 1, 0, 3, 0, 0);
-            stagesAre("kind " + d[0] + " does not write y", z, 0, 0);
-            MatchPipe w = ready(4);
-            step(w, 0, d[0], d[1], d[2], d[3]);
-            w.test(2, 0, 0, 2);
-            stagesAre("kind " + d[0] + " writes x, read by a TEST", w, 0, 1);
-        }
-        MatchPipe none = ready(4);
-        step(none, 0, 7, 2, 1, 2);
-        step(none, 2, 0, 3, 0, 0);
-        stagesAre("kind 7 writes no field", none, 0, 0);
-
-        int[][] readers = {{1, 3, 2, 0}, {2, 3, 2, 0}, {7, 1, 2, 0}, {8, 3, 2, 0}, {2, 2, 3, 0}};
-        for (int[] d : readers) {
-            MatchPipe x = ready(4);
-            step(x, 0, 0, 2, 0, 0);
-            step(x, 0, d[0], d[1], d[2], d[3]);
-            stagesAre("kind " + d[0] + " reads field 2", x, 0, 1);
-        }
-        int[][] others = {{0, 3, 2, 2}, {1, 3, 0, 2}, {3, 3, 1, 2}, {4, 2, 2, 2}, {5, 2, 1, 2}, {6, 2, 2, 2}, {7, 2, 0, 2},
-            {8, 3, 0, 2}};
-        for (int[] d : others) {
-            MatchPipe x = ready(4);
-            step(x, 0, 0, 2, 0, 0);
-            step(x, 0, d[0], d[1], d[2], d[3]);
-            stagesAre("kind " + d[0] + " does not read field 2", x, 0, 0);
-        }
-        MatchPipe second = ready(4);
-        step(second, 0, 0, 2, 0, 0);
-        int action = second.action();
-        second.apply(second.table(0, 2, 0, 1 << action, action));
-        stagesAre("the second key is read", second, 0, 1);
-        MatchPipe behind = ready(4);
-        step(behind, 2, 0, 3, 0, 0);
-        step(behind, 0, 0, 2, 0, 0);
-        stagesAre("read first, written behind it", behind, 0, 0);
-        MatchPipe first = ready(4);
-        step(first, 0, 0, 2, 0, 0);
-        step(first, 0, 0, 3, 0, 0);
-        step(first, 2, 0, 1, 0, 0);
-        stagesAre("what the first of three writes", first, 0, 0, 1);
-        MatchPipe fresh = ready(4);
-        step(fresh, 0, 0, 2, 0, 0);
-        step(fresh, 2, 0, 3, 0, 0);
-        step(fresh, 2, 0, 1, 0, 0);
-        stagesAre("what was written a stage ahead", fresh, 0, 1, 1);
+    static void promise13_fault2_statesThatReadingNeverComesTo() {
+        faulty(new Run(READER, "state(-1,-1,-1,-1,-1)", "otherwise(1,1)"), 2, 1);
     }
 
-    private static void stagesByPortAndDrop() {
-        MatchPipe x = ready(2);
-        step(x, 0, 4, 0, 1, 0);
-        step(x, 0, 6, 0, 0, 0);
-        step(x, 0, 5, 0, 1, 0);
-        step(x, 0, 6, 0, 0, 0);
-        step(x, 0, 6, 0, 0, 0);
-        stagesAre("PORT and DROP", x, 0, 0, 1, 1, 2);
-        MatchPipe y = ready(2);
-        int may = y.action();
-        y.doing(may, 0, 1, 1, 1);
-        y.action();
-        y.apply(y.table(0, NONE, 0, 3, 1));
-        y.apply(y.table(1, NONE, 0, 2, 1));
-        stagesAre("an action that may be done", y, 0, 1);
+    static void promise13_fault3_aTestsLaterStepIsNot() {
+        for (int to : new int[] {0, 1, -1, -2, 4, 16, MIN, MAX}) {
+            faulty(new Run("field(8)", READER, "test(0,0,0,3)", "test(0,0,0," + to + ")", "test(0,0,0,2)"), 3, 1);
+        }
     }
 
-    private static void threeInAStage() {
-        MatchPipe x = ready(2);
-        for (int i = 0; i < 7; i++) {
-            int action = x.action();
-            x.apply(x.table(0, NONE, 0, 1 << action, action));
-        }
-        stagesAre("three in a stage", x, 0, 0, 0, 1, 1, 1, 2);
+    static void promise13_fault3_theNextStepAndTheEndAre() {
+        laid(new Run("field(8)", READER, "test(0,0,0,1)", "test(0,0,0,3)", "test(0,0,0,3)"), 0, 1, 2);
+        laid(new Run("field(8)", READER, "action()", "table(0,-1,0,1,0)", "apply(0)", "test(0,0,0,2)"), 0, 0);
     }
 
-    private static void behindTests() {
-        MatchPipe x = ready(2);
-        x.action();
-        x.table(0, NONE, 0, 1, 0);
-        x.table(0, NONE, 0, 1, 0);
-        x.table(0, NONE, 0, 1, 0);
-        x.apply(0);
-        x.test(0, 0, 0, 5);
-        x.apply(1);
-        x.apply(2);
-        x.test(0, 0, 0, 5);
-        stagesAre("a TEST is the last of its stage", x, 0, 0, 1, 1, 1);
+    static void promise13_fault3_goneWithMoreSteps() {
+        laid(faulty(new Run("field(8)", READER, "test(0,0,0,2)"), 3, 0).then("test(0,0,0,2)"), 0, 1);
     }
 
-    private static void thirteenStages() {
-        MatchPipe x = ready(1);
-        for (int i = 0; i < 12; i++) {
-            x.test(0, 0, 0, i + 1);
-        }
-        stagesAre("twelve", x, 0, 1, 2, 3, 4, 5, 6, 7, 8, 9, 10, 11);
-        MatchPipe y = ready(2);
-        y.action();
-        y.table(0, NONE, 0, 1, 0);
-        y.apply(0);
-        for (int i = 1; i < 15; i++) {
-            y.test(0, 0, 0, i + 1);
-        }
-        faultIs("a 13th stage", y, 6, 13);
+    static void promise13_fault4_aTableInTwoSteps() {
+        Run run = new Run("field(8)", READER, "action()").times(3, "table(0,-1,0,1,0)");
+        faulty(run.then("apply(0)", "apply(1)", "test(0,0,0,4)", "apply(1)", "apply(2)", "apply(0)"), 4, 3);
+        faulty(new Run("field(8)", READER, "action()", "table(0,-1,0,1,0)", "apply(0)", "apply(0)", "apply(0)"), 4, 1);
     }
 
-    private static void theFirstFault() {
-        MatchPipe x = withFields(1);
-        for (int i = 0; i < 12; i++) {
-            x.test(0, 0, 0, i + 1);
-        }
-        step(x, 0, 7, 0, 0, 0);
-        step(x, 0, 7, 0, 0, 0);
-        x.apply(0);
-        x.test(0, 0, 0, 0);
-        faultIs("1 before all", x, 1, 0);
-        x.state(NONE, NONE, NONE, NONE, NONE);
-        x.otherwise(0, 0);
-        faultIs("2 before 3", x, 2, 0);
-        x.otherwise(0, NONE);
-        faultIs("3 before 4", x, 3, 15);
+    static void promise13_fault4_theEighthTable() {
+        Run run = new Run("field(8)", READER, "action()").times(8, "table(0,-1,0,1,0); apply(#)");
+        faulty(run.then("apply(7)"), 4, 8);
+    }
 
-        MatchPipe y = ready(1);
-        for (int i = 0; i < 12; i++) {
-            y.test(0, 0, 0, i + 1);
-        }
-        step(y, 0, 7, 0, 0, 0);
-        step(y, 0, 7, 0, 0, 0);
-        faultIs("5 before 6", y, 5, 0);
-        y.apply(0);
-        faultIs("4 before 5", y, 4, 14);
-        y.clear();
-        Check.due("cleared: fault", 0, () -> y.fault(0));
-        Check.due("cleared: place", NONE, () -> y.fault(1));
+    static void promise13_fault4_twoTablesThatAreAlike() {
+        laid(new Run("field(8)", READER, "action()", "table(0,-1,0,1,0)", "table(0,-1,0,1,0)", "apply(0)", "apply(1)"),
+            0, 0);
+    }
+
+    static void promise13_fault5_anArrayOfTwoTables() {
+        faulty(steps("0: 7,3,1,1", "0: 7,3,1,1"), 5, 3);
+        faulty(steps("0: 7,3,1,1", "0: 8,1,0,3"), 5, 3);
+        faulty(steps("0: 8,1,0,0", "0: 8,1,0,0"), 5, 0);
+    }
+
+    static void promise13_fault5_theLeastArray() {
+        faulty(steps("0: 7,3,1,1", "0: 7,1,1,1", "0: 7,3,1,1", "0: 7,1,1,1"), 5, 1);
+        faulty(steps("0: 7,2,1,1", "0: 7,2,1,1", "0: 7,0,1,1", "0: 7,0,1,1"), 5, 0);
+    }
+
+    static void promise13_fault5_aTableWithoutAStep() {
+        laid(steps("0: 7,0,1,1").then("table(0,-1,0,1,0)", "table(1,-1,0,1,0)"), 0);
+    }
+
+    static void promise13_fault5_anArrayTwiceInOneTable() {
+        laid(new Run(FOUR, "action()", "action()", "doing(0,7,2,0,1)", "doing(0,8,1,0,2)", "doing(1,7,2,0,1)",
+            "table(0,-1,0,3,0)", "apply(0)"), 0);
+    }
+
+    static void promise13_fault5_anActionThatIsDoneWithoutAMatchOnly() {
+        faulty(new Run(FOUR, "action()", "action()", "doing(1,7,2,0,1)", "table(0,-1,0,3,0)", "table(0,-1,0,3,1)",
+            "apply(0)", "apply(1)"), 5, 2);
+    }
+
+    static void promise13_fault5_otherArrays() {
+        laid(steps("0: 7,0,0,3", "0: 7,1,0,2", "0: 7,2,0,1", "0: 7,3,0,0"), 0, 0, 0, 1);
+        laid(steps("0: 8,1,0,3", "0: 7,1,0,1"), 0, 0);
+    }
+
+    static void promise13_fault6_aThirteenthStage() {
+        faulty(new Run("field(8)", READER).times(13, "test(0,0,0,13)"), 6, 12);
+        faulty(new Run("field(8)", READER).times(16, "test(0,0,0,16)"), 6, 12);
+        faulty(new Run("field(8)", READER, "action()", "table(0,-1,0,1,0)", "apply(0)").times(14, "test(0,0,0,15)"), 6, 13);
+    }
+
+    static void promise13_fault_theFirstInTheirOrder() {
+        Run run = new Run("field(8)").times(12, "test(0,0,0,12)").tableStep(0, 0, "7,0,0,0").tableStep(1, 0, "7,0,0,0")
+            .then("apply(0)", "test(0,0,0,0)");
+        faulty(run, 1, 0).then(READER, "otherwise(0,0)");
+        faulty(run, 2, 0).then("otherwise(0,-1)");
+        faulty(run, 3, 15);
+    }
+
+    static void promise13_fault_4Before5Before6() {
+        Run run = new Run("field(8)", READER).times(12, "test(0,0,0,12)").tableStep(0, 0, "7,0,0,0");
+        faulty(run, 6, 12);
+        faulty(run.tableStep(1, 0, "7,0,0,0"), 5, 0);
+        faulty(run.then("apply(0)"), 4, 14);
+    }
+
+    static void promise13_fault_1Before2() {
+        faulty(new Run(READER, "state(-1,-1,-1,-1,-1)", "otherwise(0,0)", "otherwise(1,2)"), 1, 1);
+    }
+
+    static void promise14_stage_noSuchStep() {
+        laid(new Run("field(8)", READER, "test(0,0,0,1)", "test(0,0,0,2)"), 0, 1)
+            .each("stage(#) -> NONE", 2, 15, 16, -1, MIN, MAX);
+    }
+
+    static void promise14_stage_noStepAtAll() {
+        laid(new Run(READER)).each("stage(#) -> NONE", 0, 1, -1);
+    }
+
+    static void promise14_stage_notLaid() {
+        new Run("field(8)", "test(0,0,0,1)", "stage(0) -> NONE", "lay() -> IAE", "stage(0) -> NONE", READER,
+            "stage(0) -> NONE", "lay() -> 1", "stage(0) -> 0");
+    }
+
+    static void promise14_stage_behindA13thStage() {
+        faulty(new Run("field(8)", READER).times(13, "test(0,0,0,13)"), 6, 12).times(13, "stage(#) -> NONE");
+    }
+
+    static void promise14_stage_all16Steps() {
+        Run run = new Run("field(8)", READER, "action()").times(8, "table(0,-1,0,1,0); apply(#)")
+            .times(8, "test(0,0,0,16)");
+        laid(run, 0, 0, 0, 1, 1, 1, 2, 2, 2, 3, 4, 5, 6, 7, 8, 9);
     }
 }

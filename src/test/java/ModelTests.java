@@ -4,7 +4,8 @@ import java.util.function.IntSupplier;
 
 /** Random runs of calls, each on a new object, whose answers must be those of the slow pipe. */
 public final class ModelTests {
-    private static final int RUNS = 3000;
+    private static final int RUNS = 6000;
+    private static final int MOST_CALLS = 512;
     private static final int NONE = MatchPipe.NONE;
     private static final int[] EDGES = {
         0, 1, -1, 2, 3, 7, 8, 15, 16, 255, 256, -2, -3, Integer.MIN_VALUE, Integer.MAX_VALUE,
@@ -37,13 +38,14 @@ public final class ModelTests {
     public static void main(String[] args) {
         for (int seed = 1; seed <= RUNS && Check.wrongSoFar() < 10; seed++) {
             ModelTests run = new ModelTests(seed);
-            run.build();
-            run.use();
             if (seed % 7 == 0) {
-                run.same("clear()", () -> clear(run.fast), () -> clear(run.slow));
                 run.build();
-                run.use();
+                run.use(20);
+                run.clear();
             }
+            run.build();
+            run.use(70);
+            run.lookAtAll();
         }
         System.out.println("faults of each kind: " + Arrays.toString(faults));
         System.out.println(laidRuns + " were laid, " + wholePackets + " packets and " + entriesTaken
@@ -53,21 +55,29 @@ public final class ModelTests {
         Check.close("ModelTests");
     }
 
-    private static int clear(MatchPipe x) {
-        x.clear();
-        return 0;
+    private void clear() {
+        tell("clear()", fast::clear, slow::clear);
     }
 
-    private static int clear(SlowPipe x) {
-        x.clear();
-        return 0;
-    }
-
+    /** What both answer, or that they are no longer asked, since the document looks at 512 calls alone. */
     private String same(String call, IntSupplier ofFast, IntSupplier ofSlow) {
+        if (calls == MOST_CALLS) {
+            return "throws nothing, for it is not called";
+        }
         calls++;
         String want = Check.answer(ofSlow);
         Check.same("seed " + seed + ", call " + calls + ", " + call, want, Check.answer(ofFast));
         return want;
+    }
+
+    private void tell(String call, Runnable toFast, Runnable toSlow) {
+        same(call, () -> {
+            toFast.run();
+            return 0;
+        }, () -> {
+            toSlow.run();
+            return 0;
+        });
     }
 
     private static int grown(String answer, int before) {
@@ -159,13 +169,8 @@ public final class ModelTests {
         int value = word();
         int mask = mask();
         int to = way();
-        same("choice(" + state + ", " + value + ", " + mask + ", " + to + ")", () -> {
-            fast.choice(state, value, mask, to);
-            return 0;
-        }, () -> {
-            slow.choice(state, value, mask, to);
-            return 0;
-        });
+        tell("choice(" + state + ", " + value + ", " + mask + ", " + to + ")",
+            () -> fast.choice(state, value, mask, to), () -> slow.choice(state, value, mask, to));
     }
 
     private void otherwise() {
@@ -173,13 +178,8 @@ public final class ModelTests {
     }
 
     private void otherwise(int state, int to) {
-        same("otherwise(" + state + ", " + to + ")", () -> {
-            fast.otherwise(state, to);
-            return 0;
-        }, () -> {
-            slow.otherwise(state, to);
-            return 0;
-        });
+        tell("otherwise(" + state + ", " + to + ")",
+            () -> fast.otherwise(state, to), () -> slow.otherwise(state, to));
     }
 
     private void action() {
@@ -192,13 +192,8 @@ public final class ModelTests {
         int x = kind == 7 ? one(4) : kind == 4 || kind == 6 ? word() : one(fields);
         int y = kind == 3 || kind == 5 ? one(2) : kind == 0 || kind == 4 ? word() : one(fields);
         int z = kind == 8 ? one(4) : word();
-        same("doing(" + action + ", " + kind + ", " + x + ", " + y + ", " + z + ")", () -> {
-            fast.doing(action, kind, x, y, z);
-            return 0;
-        }, () -> {
-            slow.doing(action, kind, x, y, z);
-            return 0;
-        });
+        tell("doing(" + action + ", " + kind + ", " + x + ", " + y + ", " + z + ")",
+            () -> fast.doing(action, kind, x, y, z), () -> slow.doing(action, kind, x, y, z));
     }
 
     private void table() {
@@ -232,7 +227,7 @@ public final class ModelTests {
             return;
         }
         same("lay()", fast::lay, slow::lay);
-        look();
+        lookAtStages();
         faults[slow.fault(0)]++;
         if (slow.fault(0) == 1) {
             state();
@@ -244,8 +239,8 @@ public final class ModelTests {
         laidRuns += slow.count(5) > 0 ? 1 : 0;
     }
 
-    private void use() {
-        for (int i = 0; i < 120; i++) {
+    private void use(int rounds) {
+        for (int i = 0; i < rounds; i++) {
             switch (upTo(9)) {
                 case 0:
                 case 1:
@@ -273,9 +268,12 @@ public final class ModelTests {
                 wildCall();
             }
         }
+    }
+
+    private void lookAtAll() {
         run(100);
         look();
-        for (int i = 0; i < slow.count(0); i++) {
+        for (int i = Math.max(0, slow.count(3) - 66); i < slow.count(0); i++) {
             told(i);
         }
     }
@@ -301,8 +299,7 @@ public final class ModelTests {
 
     private void end() {
         int[] w = {random.nextInt(), word(), word(), word(), random.nextInt()};
-        fast.feed(w[0], w[1], w[2], w[3], w[4]);
-        slow.feed(w[0], w[1], w[2], w[3], w[4]);
+        tell("feed()", () -> fast.feed(w[0], w[1], w[2], w[3], w[4]), () -> slow.feed(w[0], w[1], w[2], w[3], w[4]));
         int n = rarely() ? edge() : upTo(20);
         same("end(" + n + ")", () -> fast.end(n), () -> slow.end(n));
     }
@@ -312,8 +309,7 @@ public final class ModelTests {
         for (int i = 0; i < 5; i++) {
             w[i] = upTo(3) << 24 + upTo(7) | upTo(3) << 16 + upTo(7) | word() & 0xFFFF;
         }
-        fast.feed(w[0], w[1], w[2], w[3], w[4]);
-        slow.feed(w[0], w[1], w[2], w[3], w[4]);
+        tell("feed()", () -> fast.feed(w[0], w[1], w[2], w[3], w[4]), () -> slow.feed(w[0], w[1], w[2], w[3], w[4]));
         int n = rarely() ? upTo(3) : 8 + upTo(12);
         same("end(" + n + ")", () -> fast.end(n), () -> slow.end(n));
         same("packet()", fast::packet, slow::packet);
@@ -322,8 +318,7 @@ public final class ModelTests {
     private void entry() {
         if (random.nextInt(4) > 0) {
             int[] k = {word(), mask(), word(), mask()};
-            fast.key(k[0], k[1], k[2], k[3]);
-            slow.key(k[0], k[1], k[2], k[3]);
+            tell("key()", () -> fast.key(k[0], k[1], k[2], k[3]), () -> slow.key(k[0], k[1], k[2], k[3]));
         }
         int table = one(tables);
         if (random.nextInt(4) == 0) {
@@ -353,33 +348,42 @@ public final class ModelTests {
     }
 
     private void told(int operation) {
-        for (int i = 0; i < 6; i++) {
+        for (int i = 0; i < 5; i++) {
             int what = i;
             same("out(" + operation + ", " + i + ")", () -> fast.out(operation, what), () -> slow.out(operation, what));
         }
-        for (int i = -1; i <= slow.out(operation, 3) + 1; i++) {
+        int bytes = slow.out(operation, 3);
+        for (int i = random.nextInt(2) - 1; i <= bytes; i += 1 + upTo(7)) {
             int at = i;
             same("byteAt(" + operation + ", " + i + ")", () -> fast.byteAt(operation, at), () -> slow.byteAt(operation, at));
         }
-        wholePackets += slow.out(operation, 3) > 0 ? 1 : 0;
+        wholePackets += bytes > 0 ? 1 : 0;
         entriesTaken += slow.out(operation, 0) == 1 && slow.out(operation, 1) == 0 ? 1 : 0;
+    }
+
+    private void lookAtStages() {
+        for (int i = -1; i <= 2; i++) {
+            int what = i;
+            same("fault(" + i + ")", () -> fast.fault(what), () -> slow.fault(what));
+        }
+        for (int i = -1; i <= steps; i++) {
+            int step = i;
+            same("stage(" + i + ")", () -> fast.stage(step), () -> slow.stage(step));
+        }
     }
 
     private void look() {
         for (int i = -1; i <= 6; i++) {
             int what = i;
             same("count(" + i + ")", () -> fast.count(what), () -> slow.count(what));
-            same("fault(" + i + ")", () -> fast.fault(what), () -> slow.fault(what));
         }
-        for (int i = -1; i <= 16; i++) {
-            int step = i;
-            same("stage(" + i + ")", () -> fast.stage(step), () -> slow.stage(step));
-            for (int j = -1; j <= 4; j++) {
-                int array = j;
-                same("word(" + j + ", " + i + ")", () -> fast.word(array, step), () -> slow.word(array, step));
-            }
+        lookAtStages();
+        for (int i = 0; i < 16; i++) {
+            int array = upTo(3);
+            int at = i;
+            same("word(" + array + ", " + i + ")", () -> fast.word(array, at), () -> slow.word(array, at));
         }
-        for (int i = -1; i <= 8; i++) {
+        for (int i = -1; i <= tables; i++) {
             int table = i;
             same("entries(" + i + ")", () -> fast.entries(table), () -> slow.entries(table));
         }

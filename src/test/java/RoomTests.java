@@ -7,7 +7,7 @@ import java.util.Deque;
 import java.util.IdentityHashMap;
 import java.util.Set;
 
-/** An object is so small that 512 of them fit in the room of one run, and no call makes it grow. */
+/** An object is so small, new or used, that 512 of them fit in the room of one run. */
 public final class RoomTests {
     private static final int CALLS = 512;
     private static final int MOST_OBJECTS = 600_000 / CALLS;
@@ -15,19 +15,21 @@ public final class RoomTests {
 
     public static void main(String[] args) throws IllegalAccessException {
         MatchPipe pipe = new MatchPipe();
-        int[] before = size(pipe);
-        System.out.println("a new object: " + before[0] + " objects, " + before[1] + " fields and elements");
-        Check.same("few objects", "true", "" + (before[0] <= MOST_OBJECTS));
-        Check.same("few fields and elements", "true", "" + (before[1] <= MOST_ELEMENTS));
+        isSmall("a new object", pipe);
         use(pipe);
-        int[] after = size(pipe);
-        Check.same("as many objects as before", "" + before[0], "" + after[0]);
-        Check.same("as many elements as before", "" + before[1], "" + after[1]);
+        isSmall("a used object", pipe);
         Check.close("RoomTests");
     }
 
+    private static void isSmall(String what, MatchPipe pipe) throws IllegalAccessException {
+        int[] size = size(pipe);
+        System.out.println(what + ": " + size[0] + " objects, " + size[1] + " fields and elements");
+        Check.same(what + ", few objects", true, size[0] <= MOST_OBJECTS);
+        Check.same(what + ", few fields and elements", true, size[1] <= MOST_ELEMENTS);
+    }
+
     private static void use(MatchPipe pipe) {
-        for (int round = 0; round < 3; round++) {
+        for (int round = 0; round < 2; round++) {
             pipe.field(8);
             pipe.state(0, -1, -1, -1, -1);
             pipe.action();
