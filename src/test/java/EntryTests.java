@@ -51,6 +51,11 @@ public final class EntryTests {
             .then("run(9)").out(0, 1, 0).out(1, 1, 0).out(2, 1, 1).then("out(3,2) -> 7", "out(4,2) -> 8", "out(5,2) -> 0");
     }
 
+    static void promise18_key_isCutToTheField() {
+        table(0).then("key(0x1F5,0xFFFF,0,0)", "insert(0,0,0,7,0)", "key(-1,-1,0,0)", "insert(0,0,0,8,0)").sends(2, "F5")
+            .sends(3, "FF").then("run(9)", "out(0,1) -> 0", "out(1,1) -> 0", "out(2,2) -> 7", "out(3,2) -> 8");
+    }
+
     static void promise18_key_beforeItIsLaid() {
         new Run("key(1,255,0,0)", BYTE, "action()", "table(0,-1,0,1,0)", "lay()", "insert(0,0,0,0,0)", "run(2)",
             "out(0,1) -> 0");
@@ -255,6 +260,20 @@ public final class EntryTests {
     static void promise19_insert_aMaskWithoutOnesMatchesAll() {
         table(2).then("key(77,0,0,0)", "insert(0,0,0,5,0)").sends(1, "00").sends(2, "FF").then("run(9)", "out(1,2) -> 5",
             "out(2,2) -> 5");
+    }
+
+    static void promise19_insert_aKeyOf32Bits() {
+        Run run = new Run("field(32)", "state(0,-1,-1,-1,-1)", "action()", "doing(0,5,0,0,0)", "table(0,-1,1,1,0)",
+            "apply(0)", "lay()", "key(-1,-1,0,0)", "insert(0,0,0,1,0)", "key(MIN,MIN,0,0)", "insert(0,0,0,2,0)",
+            "key(0,MIN,0,0)", "insert(0,0,0,3,0)");
+        run.sends(3, "FFFFFFFF").sends(4, "80000000").sends(5, "FFFFFFFE").sends(6, "7FFFFFFF").sends(7, "00000000")
+            .then("run(20)", "out(3,2) -> 1", "out(4,2) -> 2", "out(5,2) -> 2", "out(6,2) -> 3", "out(7,2) -> 3");
+    }
+
+    static void promise19_insert_theSixteenthAction() {
+        Run run = new Run(BYTE).times(16, "action(); doing(#,4,0,#,0)").then("table(0,-1,0,0xFFFF,14)", "apply(0)",
+            "lay()").times(16, "key(#,255,0,0); insert(0,0,#,0,0)").sends(16, "00").sends(17, "0F").sends(18, "10");
+        run.then("run(30)", "out(15,1) -> 0", "out(16,2) -> 0", "out(17,2) -> 15", "out(18,2) -> 14");
     }
 
     static void promise19_insert_bothKeysMustMatch() {

@@ -159,6 +159,42 @@ public final class LayTests {
         }
     }
 
+    static void promise12_lay_allThatFourDoingsWrite() {
+        String[] writers = {"0,1,0,0", "4,0,0,0", "6,0,0,0", "8,2,3,0"};
+        String[] behind = {"1: 7,1,3,1", "3: 5,0,0,0", "3: 6,0,0,0", "2: 7,1,3,1", "3: 1,1,3,0", "3: 7,1,1,1", "3: 7,1,2,1"};
+        for (int turn = 0; turn < 4; turn++) {
+            for (String step : behind) {
+                Run run = new Run(FOUR, "action()");
+                for (int i = 0; i < 4; i++) {
+                    run.then("doing(0," + writers[(i + turn) % 4] + ")");
+                }
+                String[] parts = step.split(": ");
+                run.then("table(3,-1,0,1,0)", "apply(0)").tableStep(1, Integer.parseInt(parts[0]), parts[1]);
+                laid(run, 0, 1);
+            }
+        }
+    }
+
+    static void promise12_lay_allThatFourDoingsRead() {
+        String[] readers = {"1,0,1,0", "2,0,2,0", "7,0,3,0", "8,0,4,1"};
+        for (int turn = 0; turn < 4; turn++) {
+            for (int field = 0; field < 7; field++) {
+                Run run = new Run("field(8)", "field(8)", "field(8)", FOUR, "action()", "action()",
+                    "doing(1,0," + field + ",9,0)");
+                for (int i = 0; i < 4; i++) {
+                    run.then("doing(0," + readers[(i + turn) % 4] + ")");
+                }
+                run.then("table(6,-1,0,2,1)", "table(5,-1,0,1,0)", "apply(0)", "apply(1)");
+                laid(run, 0, field < 6 ? 1 : 0);
+            }
+        }
+    }
+
+    static void promise12_lay_field0() {
+        laid(steps("1: 0,0,9,0", "1: 4,0,0,0"), 0, 0);
+        laid(steps("1: 0,0,9,0", "0: 4,0,0,0"), 0, 1);
+    }
+
     static void promise12_lay_field15() {
         Run run = new Run().times(16, "field(2)").then(READER).tableStep(0, 0, "0,15,0,0").tableStep(1, 15, "4,0,0,0");
         laid(run, 0, 1);
@@ -264,6 +300,24 @@ public final class LayTests {
         laid(run).then("packet()", "run(2)", "out(0,1) -> 0");
     }
 
+    static void promise13_fault2_eachWayOn() {
+        String[] ways = {"choice(0,1,255,0)", "choice(0,2,255,-1)", "choice(0,3,255,1)", "choice(0,4,255,-2)"};
+        for (int turn = 0; turn < 4; turn++) {
+            Run run = new Run("field(8)", "state(-1,-1,-1,-1,0)", "state(0,-1,-1,-1,-1)", "otherwise(0,1)");
+            for (int i = 0; i < 4; i++) {
+                run.then(ways[(i + turn) % 4]);
+            }
+            faulty(run, 2, 0);
+        }
+        faulty(new Run("field(8)", "state(-1,-1,-1,-1,0)", "choice(0,1,255,-1)", "otherwise(0,0)"), 2, 0);
+    }
+
+    static void promise13_fault2_acceptAndRejectAreNoWayOn() {
+        laid(new Run("field(8)", "state(-1,-1,-1,-1,0)", "choice(0,1,255,-1)", "choice(0,2,255,-2)", "otherwise(0,-2)"));
+        laid(new Run("field(8)", "state(-1,-1,-1,-1,0)", "state(-1,-1,-1,-1,0)", "otherwise(0,1)", "choice(1,1,255,-1)",
+            "choice(1,2,255,-2)"));
+    }
+
     static void promise13_fault2_aFieldOnTheWay() {
         laid(new Run("field(8)", "state(0,-1,-1,-1,-1)", "otherwise(0,0)"));
         laid(new Run("field(8)", "state(-1,-1,-1,-1,-1)", "state(0,-1,-1,-1,-1)", "otherwise(0,1)", "otherwise(1,0)"));
@@ -318,6 +372,21 @@ public final class LayTests {
     static void promise13_fault5_theLeastArray() {
         faulty(steps("0: 7,3,1,1", "0: 7,1,1,1", "0: 7,3,1,1", "0: 7,1,1,1"), 5, 1);
         faulty(steps("0: 7,2,1,1", "0: 7,2,1,1", "0: 7,0,1,1", "0: 7,0,1,1"), 5, 0);
+        faulty(steps("0: 7,0,1,1", "0: 7,0,1,1", "0: 7,2,1,1", "0: 7,2,1,1"), 5, 0);
+    }
+
+    static void promise13_fault5_allThatFourDoingsUse() {
+        String[] users = {"7,0,3,0", "8,0,3,1", "7,2,3,0", "8,0,3,3"};
+        for (int turn = 0; turn < 4; turn++) {
+            for (int array = 0; array < 4; array++) {
+                Run run = new Run(FOUR, "action()");
+                for (int i = 0; i < 4; i++) {
+                    run.then("doing(0," + users[(i + turn) % 4] + ")");
+                }
+                run.then("table(3,-1,0,1,0)", "apply(0)").tableStep(1, 3, "7," + array + ",3,1");
+                faulty(run, 5, array);
+            }
+        }
     }
 
     static void promise13_fault5_aTableWithoutAStep() {

@@ -138,6 +138,12 @@ public final class NewAndClearTests {
             "stage(0) -> NONE", "packet() -> ISE", "run(0) -> ISE", SMALL, "field(8) -> 1", "lay() -> 1");
     }
 
+    static void promise02_clear_theStagesOfTables() {
+        new Run(SMALL, "table(0,-1,0,1,0)", "test(0,0,0,1)", "test(0,0,0,2)", "apply(0)", "lay() -> 3", "clear()", SMALL,
+            "table(0,-1,0,1,0)", "lay() -> 1", "key(1,255,0,0)", "insert(0,0,0,0,0)", "run(2) -> 1", "out(0,1) -> 0",
+            "entries(0) -> 1");
+    }
+
     static void promise02_clear_aFault() {
         new Run(SMALL, "test(0,0,0,0)", "lay() -> IAE", "fault(0) -> 3", "fault(1) -> 0", "clear()", "fault(0) -> 0",
             "fault(1) -> NONE");

@@ -89,6 +89,43 @@ public final class RunTests {
         }
     }
 
+    /** 40 packets that hold "before", then 40 that hold "after", each of two bytes, all of them OUT. */
+    private static Run manyThenMany(Run run, String before, String after) {
+        run.times(40, "feed(0x" + before + "0000,0,0,0,0); end(2); packet()").then("run(60)");
+        return run.times(40, "feed(0x" + after + "0000,0,0,0,0); end(2); packet()").then("run(60)");
+    }
+
+    static void promise21_run_aPacketHasNoFieldsOfThoseAhead() {
+        manyThenMany(new Run("field(8)", "field(8)", "state(0,-1,-1,-1,0)", "state(1,-1,-1,-1,-1)", "choice(0,1,255,1)")
+            .tableStep(0, 0, "1,0,1,0").then("lay()"), "0155", "0255").bytes(39, "5555").bytes(40, "0055")
+            .bytes(79, "0055");
+    }
+
+    static void promise21_run_aPacketIsNotDroppedWithThoseAhead() {
+        manyThenMany(new Run("field(8)", "state(0,-1,-1,-1,-1)", "test(0,0,9,2)").tableStep(0, 0, "6,0,0,0")
+            .then("lay()"), "0955", "0855").out(39, 0, 1).out(40, 0, 0, 0, 2).out(79, 0, 0, 0, 2).bytes(40, "0855");
+    }
+
+    static void promise21_run_aPacketSkipsNoStepWithThoseAhead() {
+        manyThenMany(new Run("field(8)", "state(0,-1,-1,-1,-1)", "test(0,0,9,2)").tableStep(0, 0, "4,0,5,0")
+            .then("lay()"), "0855", "0955").out(39, 0, 0, 0, 2).out(40, 0, 0, 5, 2).out(79, 0, 0, 5, 2);
+    }
+
+    static void promise21_run_aPacketIsNotRejectedWithThoseAhead() {
+        manyThenMany(new Run("field(8)", "state(0,-1,-1,-1,0)", "choice(0,9,255,-2)", "lay()"), "0955", "0855")
+            .out(39, 0, 2).out(40, 0, 0, 0, 2).out(79, 0, 0, 0, 2);
+    }
+
+    static void promise21_run_aPacketIsNotRefusedAsEntriesFarAhead() {
+        Run run = new Run("field(8)", "action()", "table(0,-1,0,1,0)", LAID);
+        run.times(40, "remove(0)").then("run(41) -> 40").times(40, "remove(0)").then("run(41) -> 40");
+        run.times(40, "remove(0)").then("run(41) -> 40").times(40, "packet()").then("run(41) -> 40");
+        for (int operation = 120; operation < 160; operation += 3) {
+            run.out(operation, 0, 0, 0, 0);
+        }
+        run.out(119, 2, 1, -1, -1);
+    }
+
     static void promise22_out_noSuchOperation() {
         new Run(LAID, "packet()", "packet()", "run(9)").each("out(#,0) -> NONE", 2, -1, 64, MIN, MAX)
             .each("out(#,4) -> NONE", 2, -1, 64, MIN, MAX).then("out(1,0) -> 0", "out(0,0) -> 0");

@@ -212,6 +212,30 @@ public final class TapeTests {
             .bytes(0, "E0000000EFABCDEF").bytes(1, "E000000100").out(2, 0, 2, -1, -1, 3);
     }
 
+    static void promise17_packet_aFieldAcrossEachByte() {
+        // A field of 32 bits, all of which are turned to ones, behind each number of bits.
+        for (int ahead = 1; ahead <= 31; ahead++) {
+            String ones = "0".repeat(ahead) + "1".repeat(32) + "0".repeat(64 - ahead - 32);
+            new Run("field(" + ahead + ")", "field(32)", "state(0,1,-1,-1,-1)", "action()", "doing(0,0,1,-1,0)",
+                "table(0,-1,0,1,0)", "apply(0)", "lay()").sends(0, "0000000000000000").then("run(2)")
+                .bytes(0, String.format("%016X", Long.parseUnsignedLong(ones, 2)));
+        }
+    }
+
+    static void promise17_packet_eachFieldOf60Bytes() {
+        for (int field = 0; field < 16; field++) {
+            Run run = new Run().times(16, "field(30)").then("state(0,1,2,3,-1)", "state(4,5,6,7,-1)",
+                "state(8,9,10,11,-1)", "state(12,13,14,15,-1)", "otherwise(0,1)", "otherwise(1,2)", "otherwise(2,3)",
+                "action()", "doing(0,0," + field + ",-1,0)", "table(0,-1,0,1,0)", "apply(0)", "lay()");
+            String bits = "0".repeat(30 * field) + "1".repeat(30) + "0".repeat(30 * (15 - field));
+            StringBuilder bytes = new StringBuilder();
+            for (int i = 0; i < 60; i++) {
+                bytes.append(String.format("%02X", Integer.parseInt(bits.substring(8 * i, 8 * i + 8), 2)));
+            }
+            run.sends(0, "00".repeat(60)).then("run(2)").bytes(0, bytes.toString());
+        }
+    }
+
     static void promise17_packet_fieldsThatWereNotReadDoNotGoOut() {
         new Run("field(8)", "field(8)", "state(1,-1,-1,-1,-1)", "action()", "doing(0,0,0,0xEE,0)", "table(1,-1,0,1,0)",
             "apply(0)", "lay()").sends(0, "1122").then("run(2)").bytes(0, "1122");

@@ -419,6 +419,17 @@ public final class TellTests {
             .bytes(2, "F4FE").then("word(2,5) -> 0x3FC", "word(2,4) -> 0x1FE");
     }
 
+    static void promise08_doing_whatIsNotUsedChangesNothing() {
+        change("0,0,5,99", "A5", "05");
+        change("1,0,0,99", "A5", "A5");
+        change("3,0,1,99", "A5", "00");
+        change("4,99,0,99", "A5", "A5");
+        change("5,99,0,99", "A5", "A5");
+        change("7,0,0,99", "A5", "A5");
+        new Run(BYTE, "action()", "doing(0,6,0,0,5)", "doing(0,6,99,99,99)", "doing(0,6,-1,-1,-1)", ONE_STEP)
+            .sends(0, "02").then("run(2)").out(0, 0, 1, -1, -1, 1).then("word(0,2) -> 0");
+    }
+
     static void promise08_doing_oneAfterTheOther() {
         new Run("field(8)", "field(8)", "state(0,1,-1,-1,-1)", "action()", "doing(0,1,0,1,0)", "doing(0,0,1,9,0)",
             "doing(0,1,1,0,0)", "doing(0,2,0,1,-3)", ONE_STEP).sends(0, "0730").then("run(2)").bytes(0, "5D30");
@@ -526,6 +537,19 @@ public final class TellTests {
 
     static void promise10_apply_refusedTakesNoNumber() {
         new Run(TWO, "table(0,1,0,1,0)", "apply(1) -> IOOBE", "apply(0) -> 0", "apply(-1) -> IOOBE", "apply(0) -> 1");
+    }
+
+    static void promise10_apply_theEighthTable() {
+        new Run(BYTE, "action()", "action()", "doing(1,4,0,9,0)").times(7, "table(0,-1,0,1,0)").then("table(0,-1,0,3,0)",
+            "apply(7) -> 0", "lay()", "key(5,255,0,0)", "insert(7,0,1,0,0)").sends(1, "05").sends(2, "06").then("run(9)",
+                "out(1,2) -> 9", "out(2,2) -> 0");
+    }
+
+    static void promise10_apply_theSixteenthStep() {
+        new Run(BYTE, "action()", "doing(0,4,0,9,0)", "action()").times(7, "table(0,-1,0,2,1); apply(#)")
+            .times(8, "test(0,0,5,16)").then("table(0,-1,0,1,0) -> 7", "apply(7) -> 15", "lay() -> 11", "stage(15) -> 10")
+            .sends(0, "05").sends(1, "06").then("run(20) -> 2", "out(0,2) -> 9", "out(1,2) -> 0", "out(0,4) -> 11",
+                "out(1,4) -> 12");
     }
 
     static void promise11_test_noSuchField() {
