@@ -55,9 +55,9 @@ public final class MatchPipe {
     private static final int REFUSED = 1;
     private static final int REJECTED = 2;
 
-    private final Program program = new Program();
-    private final Layout layout = new Layout();
-    private final Line line = new Line(program, layout);
+    private final Line line = new Line();
+    private final Program program = line.program;
+    private final Layout layout = line.layout;
     private final Entry latestKey = new Entry();
     private final Bits ready = new Bits();
     private final Bits tape = new Bits();
@@ -714,15 +714,15 @@ public final class MatchPipe {
         }
 
         private boolean isBetter(Entry one, Entry other) {
-            int more = prefixOnes(one) - prefixOnes(other);
+            int more = Integer.bitCount(prefixMask(one)) - Integer.bitCount(prefixMask(other));
             return more > 0 || (more == 0 && one.priority > other.priority);
         }
 
-        private int prefixOnes(Entry entry) {
+        private int prefixMask(Entry entry) {
             if (howF == PREFIX) {
-                return Integer.bitCount(entry.maskF);
+                return entry.maskF;
             }
-            return howG == PREFIX ? Integer.bitCount(entry.maskG) : 0;
+            return howG == PREFIX ? entry.maskG : 0;
         }
 
         private int placeOf(Entry entry) {
@@ -1174,15 +1174,15 @@ public final class MatchPipe {
         }
     }
 
-    /** The operations in line, in the stages and out, and the arrays; all go on in the order of their numbers. */
+    /** What is laid, and the operations in line, in its stages and out; all go on in the order of their numbers. */
     private static final class Line {
         /** A power of two, so that a number's place is its lowest bits; 40 + 12 + 64 operations must have room. */
         static final int PLACES = 128;
         /** The same for the packets in twelve stages. */
         static final int HEADERS = 16;
 
-        final Program program;
-        final Layout layout;
+        final Program program = new Program();
+        final Layout layout = new Layout();
         final Operation[] places = new Operation[PLACES];
         final Header[] headers = new Header[HEADERS];
         final int[] inStage = new int[STAGES];
@@ -1192,9 +1192,7 @@ public final class MatchPipe {
         int gone;
         int cycles;
 
-        Line(Program ofProgram, Layout ofLayout) {
-            program = ofProgram;
-            layout = ofLayout;
+        Line() {
             for (int i = 0; i < PLACES; i++) {
                 places[i] = new Operation();
             }

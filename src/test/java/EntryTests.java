@@ -237,6 +237,21 @@ public final class EntryTests {
             .sends(2, "50").then("run(9)", "out(2,2) -> 2");
         new Run(TWO, "table(0,1,9,1,0)", "apply(0)", "lay()", "key(0x50,0xF0,0,0)", "insert(0,5,0,1,0)",
             "key(0x50,0xF0,7,0xFF)", "insert(0,4,0,2,0)").sends(2, "5007").then("run(9)", "out(2,2) -> 1");
+        withTwoKeys(2, "0xF0,7,0xFF", "0xFF,7,0xFF");
+        withTwoKeys(8, "0xFF,7,0x0F", "0xFF,7,0xFF");
+        withTwoKeys(10, "0xF0,7,0xFF", "0xFF,7,0xFF");
+        withTwoKeys(10, "0xFF,7,0x0F", "0xFF,7,0xFF");
+        withTwoKeys(6, "0xF0,7,0xFC", "0xFF,7,0xFC");
+    }
+
+    /** Of two entries for 50 07, told from the first mask on, that of greater priority is the better one. */
+    private static void withTwoKeys(int how, String greater, String other) {
+        String one = "key(0x50," + greater + "); insert(0,5,0,1,0)";
+        String two = "key(0x50," + other + "); insert(0,4,0,2,0)";
+        for (String both : new String[] {one + ";" + two, two + ";" + one}) {
+            new Run(TWO, "table(0,1," + how + ",1,0)", "apply(0)", "lay()", both).sends(2, "5007")
+                .then("run(9)", "out(0,1) -> 0", "out(1,1) -> 0", "out(2,2) -> 1");
+        }
     }
 
     static void promise19_insert_greaterPriorityIsBetter() {

@@ -3,7 +3,9 @@ import java.lang.reflect.Field;
 import java.lang.reflect.Method;
 import java.lang.reflect.Modifier;
 import java.util.Arrays;
+import java.util.Map;
 import java.util.Set;
+import java.util.StringJoiner;
 import java.util.TreeSet;
 
 /** The face is that of the document, and there is nothing else to be seen from outside. */
@@ -14,10 +16,21 @@ public final class FaceTests {
         "feed/5/void", "end/1/int", "packet/0/int", "key/4/void", "insert/5/int", "remove/1/int", "run/1/int",
         "out/2/int", "byteAt/2/int", "word/2/int", "entries/1/int", "count/1/int",
     };
+    /** What the head of each call names, in the document's order. */
+    private static final Map<String, String> THROWS = Map.ofEntries(
+        Map.entry("field", "IAE ISE"), Map.entry("state", "IOOBE ISE"), Map.entry("choice", "IOOBE ISE"),
+        Map.entry("otherwise", "IOOBE ISE"), Map.entry("action", "ISE"), Map.entry("doing", "IOOBE IAE ISE"),
+        Map.entry("table", "IOOBE IAE ISE"), Map.entry("apply", "IOOBE ISE"), Map.entry("test", "IOOBE IAE ISE"),
+        Map.entry("lay", "ISE IAE"), Map.entry("packet", "ISE"), Map.entry("insert", "IOOBE ISE"),
+        Map.entry("remove", "IOOBE ISE"), Map.entry("run", "ISE IAE"), Map.entry("word", "ISE"),
+        Map.entry("entries", "ISE"));
+    private static final Map<Class<?>, String> SHORT = Map.of(IllegalArgumentException.class, "IAE",
+        IllegalStateException.class, "ISE", IndexOutOfBoundsException.class, "IOOBE");
 
     public static void main(String[] args) {
         Check.begin("the face");
         methods();
+        exceptions();
         privateNames();
         fields();
         constructors();
@@ -38,6 +51,18 @@ public final class FaceTests {
             }
         }
         Check.same("the methods", new TreeSet<>(Arrays.asList(FACE)), open);
+    }
+
+    private static void exceptions() {
+        for (Method m : MatchPipe.class.getDeclaredMethods()) {
+            if (isPublic(m.getModifiers())) {
+                StringJoiner named = new StringJoiner(" ");
+                for (Class<?> type : m.getExceptionTypes()) {
+                    named.add(SHORT.getOrDefault(type, type.getName()));
+                }
+                Check.same("what " + m.getName() + " throws", THROWS.getOrDefault(m.getName(), ""), named.toString());
+            }
+        }
     }
 
     private static void privateNames() {
