@@ -254,6 +254,34 @@ public final class EntryTests {
         }
     }
 
+    static void promise19_insert_onesOfThePrefixMaskNotOfTheValue() {
+        table(1).then("key(0,0x80,0,0)", "insert(0,9,0,1,0)", "key(0,0xF0,0,0)", "insert(0,0,0,2,0)", "key(0,0,0,0)",
+            "insert(0,MAX,0,3,0)").sends(3, "00").sends(4, "70").sends(5, "80").then("run(9)", "out(3,2) -> 2",
+                "out(4,2) -> 1", "out(5,2) -> 3");
+        new Run(TWO, "table(0,1,4,1,0)", "apply(0)", "lay()", "key(1,255,0,0x80)", "insert(0,9,0,1,0)", "key(1,255,0,0xF0)",
+            "insert(0,0,0,2,0)").sends(2, "0100").sends(3, "0170").then("run(9)", "out(2,2) -> 2", "out(3,2) -> 1");
+    }
+
+    static void promise19_insert_keysOfOtherWidths() {
+        String[] widths = {"field(4); field(12)", "field(12); field(4)"};
+        String[] masks = {"0xF,0xBCD,0xFFF", "0xFFF,0xBCD,0xF"};
+        String[] found = {"5BCD", "0A5D"};
+        for (int i = 0; i < 2; i++) {
+            new Run(widths[i], "state(0,1,-1,-1,-1)", "action()", "doing(0,5,0,0,0)", "table(0,1,0,1,0)", "apply(0)", "lay()",
+                "key(0xA5," + masks[1 - i] + ")", "insert(0,0,0,1,0)", "key(0xA5," + masks[i] + ")", "insert(0,0,0,2,0)",
+                "key(0xA5,-1,0xFBCD,-1)", "insert(0,0,0,3,0)").sends(3, found[i]).then("run(9)", "out(0,1) -> 1",
+                    "out(1,1) -> 0", "out(2,1) -> 1", "out(3,2) -> 2", "entries(0) -> 1");
+        }
+    }
+
+    static void promise19_insert_theSameValuesAndMasksOfTwoKeys() {
+        new Run(TWO, "table(0,1,10,1,0)", "lay()", "key(1,3,4,12)", "insert(0,0,0,0,0)", "insert(0,0,0,0,0)",
+            "key(1,3,4,13)", "insert(0,0,0,0,0)", "key(1,3,8,12)", "insert(0,0,0,0,0)", "key(1,7,4,12)",
+            "insert(0,0,0,0,0)", "key(2,3,4,12)", "insert(0,0,0,0,0)", "key(1,3,4,12)", "remove(0)", "remove(0)", "run(20)",
+            "out(0,1) -> 0", "out(1,1) -> 1", "out(2,1) -> 0", "out(3,1) -> 0", "out(4,1) -> 0", "out(5,1) -> 0",
+            "out(6,1) -> 0", "out(7,1) -> 1", "entries(0) -> 4");
+    }
+
     static void promise19_insert_greaterPriorityIsBetter() {
         int[] priorities = {MIN, -1, 0, 1, MAX};
         for (int i = 0; i < priorities.length; i++) {
@@ -301,6 +329,26 @@ public final class EntryTests {
             "lay() -> 3", "key(1,255,0,0)").sends(0, "01").then("insert(0,0,0,7,0) -> 1").sends(2, "01")
             .then("remove(0) -> 3").sends(4, "01").then("insert(0,0,0,8,0) -> 5").sends(6, "01").then("run(10) -> 7",
                 "out(0,2) -> 0", "out(2,2) -> 7", "out(4,2) -> 0", "out(6,2) -> 8");
+    }
+
+    static void promise19_insert_betweenPacketsInEachOfSixTables() {
+        for (boolean turned : new boolean[] {false, true}) {
+            Run run = new Run().times(7, "field(8)").then("state(0,1,2,3,-1)", "state(4,5,6,-1,-1)", "otherwise(0,1)");
+            for (int i = 0; i < 6; i++) {
+                run.then("action()", "doing(" + i + ",3," + (i + 1) + ",0,0)", "table(0,-1,0," + (1 << i) + "," + i + ")");
+            }
+            for (int i = 0; i < 6; i++) {
+                run.then("apply(" + (turned ? 5 - i : i) + ")");
+            }
+            run.then("lay() -> 2", "key(1,255,0,0)").sends(0, "01FFFFFFFFFFFF");
+            for (int i = 0; i < 6; i++) {
+                run.then("insert(" + i + ",0," + i + ",0x77,0) -> " + (2 * i + 1)).sends(2 * i + 2, "01FFFFFFFFFFFF");
+            }
+            run.then("run(20) -> 13");
+            for (int i = 0; i <= 6; i++) {
+                run.bytes(2 * i, "01" + "77".repeat(i) + "00".repeat(6 - i));
+            }
+        }
     }
 
     static void promise19_insert_toATableWithoutAStep() {

@@ -121,6 +121,54 @@ public final class LayTests {
         laid(steps("0: 6,0,0,0", "0: 5,0,0,0"), 0, 0);
     }
 
+    static void promise12_lay_portAndDropAreNoneOfTheFields() {
+        for (String way : new String[] {"4,0,1,0", "5,0,1,0", "6,0,0,0"}) {
+            for (int field = 0; field < 16; field++) {
+                String write = "0," + field + ",9,0";
+                laid(new Run().times(16, "field(2)").then(READER).tableStep(0, 0, way).tableStep(1, field, write), 0, 0);
+                int other = field == 0 ? 1 : 0;
+                laid(new Run().times(16, "field(2)").then(READER).tableStep(0, 0, write).tableStep(1, other, way), 0, 0);
+            }
+        }
+    }
+
+    static void promise12_lay_twoDoingsThatAreAlike() {
+        for (String writer : new String[] {"0,2,1,0", "1,2,1,0", "2,2,1,0", "3,2,1,0", "8,2,1,0"}) {
+            laid(twoActions("doing(0," + writer + "); doing(0," + writer + ")", "table(0,-1,0,1,0)", "table(2,-1,0,4,2)"), 0, 1);
+        }
+        for (String way : new String[] {"4,0,1,0", "5,0,1,0", "6,0,0,0"}) {
+            laid(twoActions("doing(0," + way + "); doing(0," + way + "); doing(2," + way + ")", "table(0,-1,0,1,0)",
+                "table(2,-1,0,4,2)"), 0, 1);
+        }
+        for (String reader : new String[] {"1,3,2,0", "2,3,2,0", "7,1,2,0", "8,3,2,0"}) {
+            laid(twoActions("doing(2,0,2,9,0); doing(0," + reader + "); doing(0," + reader + ")", "table(0,-1,0,4,2)",
+                "table(1,-1,0,1,0)"), 0, 1);
+        }
+    }
+
+    static void promise12_lay_twoActionsThatAreAlike() {
+        laid(twoActions("doing(0,0,2,9,0); doing(1,0,2,8,0)", "table(0,-1,0,3,0)", "table(2,-1,0,4,2)"), 0, 1);
+        laid(twoActions("doing(0,4,0,9,0); doing(1,4,0,8,0); doing(2,5,0,0,0)", "table(0,-1,0,3,0)", "table(2,-1,0,4,2)"), 0, 1);
+        laid(twoActions("doing(2,0,2,9,0); doing(0,7,0,2,1); doing(1,7,0,2,1)", "table(0,-1,0,4,2)", "table(1,-1,0,3,0)"), 0, 1);
+    }
+
+    /** Three actions, two tables, two steps. */
+    private static Run twoActions(String doings, String first, String second) {
+        return new Run(FOUR, "action()", "action()", "action()", doings, first, second, "apply(0)", "apply(1)");
+    }
+
+    static void promise12_lay_theSixteenthAction() {
+        laid(sixteenActions("doing(15,0,1,9,0)", "table(0,-1,0,0x8000,15)", "table(1,-1,0,1,0)"), 0, 1);
+        laid(sixteenActions("doing(0,0,1,9,0); doing(15,7,0,1,1)", "table(0,-1,0,1,0)", "table(0,-1,0,0x8000,15)"), 0, 1);
+        laid(sixteenActions("doing(0,0,1,9,0); doing(15,7,0,1,1)", "table(0,-1,0,1,0)", "table(0,-1,0,0x4000,14)"), 0, 0);
+        faulty(sixteenActions("doing(15,7,1,0,1)", "table(0,-1,0,0x8000,15)", "table(0,-1,0,0x8000,15)"), 5, 1);
+    }
+
+    private static Run sixteenActions(String doings, String first, String second) {
+        return new Run("field(2)", "field(2)", READER).times(16, "action()").then(doings, first, second, "apply(0)",
+            "apply(1)");
+    }
+
     static void promise12_lay_readAheadAndWrittenBehind() {
         laid(steps("2: 4,0,0,0", "0: 0,2,0,0"), 0, 0);
         laid(steps("0: 1,3,2,0", "0: 0,2,0,0"), 0, 0);
@@ -312,6 +360,19 @@ public final class LayTests {
         faulty(new Run("field(8)", "state(-1,-1,-1,-1,0)", "choice(0,1,255,-1)", "otherwise(0,0)"), 2, 0);
     }
 
+    static void promise13_fault2_severalWaysToOneState() {
+        faulty(new Run("field(8)", "state(-1,-1,-1,-1,0)", "choice(0,1,255,0)", "otherwise(0,0)"), 2, 0);
+        faulty(new Run("field(8)", "state(-1,-1,-1,-1,0)", "choice(0,1,255,0)", "choice(0,2,255,0)"), 2, 0);
+        faulty(new Run("field(8)", "state(-1,-1,-1,-1,0)", "state(-1,-1,-1,-1,-1)", "choice(0,1,255,1)",
+            "choice(0,2,255,1)", "choice(0,3,255,1)", "otherwise(0,1)", "otherwise(1,0)"), 2, 0);
+    }
+
+    static void promise13_fault2_anyValueAndMask() {
+        for (String valueAndMask : new String[] {"0,0", "-1,-1", "MIN,MIN", "-1,1", "1,-1", "0x100,0xF00"}) {
+            faulty(new Run("field(8)", "state(-1,-1,-1,-1,0)", "choice(0," + valueAndMask + ",0)"), 2, 0);
+        }
+    }
+
     static void promise13_fault2_acceptAndRejectAreNoWayOn() {
         laid(new Run("field(8)", "state(-1,-1,-1,-1,0)", "choice(0,1,255,-1)", "choice(0,2,255,-2)", "otherwise(0,-2)"));
         laid(new Run("field(8)", "state(-1,-1,-1,-1,0)", "state(-1,-1,-1,-1,0)", "otherwise(0,1)", "choice(1,1,255,-1)",
@@ -386,6 +447,20 @@ public final class LayTests {
                 run.then("table(3,-1,0,1,0)", "apply(0)").tableStep(1, 3, "7," + array + ",3,1");
                 faulty(run, 5, array);
             }
+        }
+    }
+
+    static void promise13_fault5_anArrayOfThreeTables() {
+        faulty(steps("0: 7,3,1,1", "0: 7,3,1,1", "0: 7,3,1,1"), 5, 3);
+        faulty(steps("0: 7,3,1,1", "0: 7,3,1,1", "0: 7,3,1,1", "0: 7,3,1,1"), 5, 3);
+    }
+
+    static void promise13_fault5_anArrayTwiceInOneOfThem() {
+        for (String user : new String[] {"7,2,0,1", "8,1,0,2"}) {
+            faulty(twoActions("doing(0," + user + "); doing(0," + user + "); doing(2,7,2,0,1)", "table(0,-1,0,1,0)",
+                "table(0,-1,0,4,2)"), 5, 2);
+            faulty(twoActions("doing(0," + user + "); doing(1," + user + "); doing(2,7,2,0,1)", "table(0,-1,0,3,0)",
+                "table(0,-1,0,4,2)"), 5, 2);
         }
     }
 

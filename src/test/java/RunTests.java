@@ -126,6 +126,24 @@ public final class RunTests {
         run.out(119, 2, 1, -1, -1);
     }
 
+    static void promise21_run_aPacketIsReadInThePlaceOfOneFarAhead() {
+        Run run = new Run("field(8)", "state(0,-1,-1,-1,-1)", "action()", "doing(0,4,0,77,0)", "doing(0,2,0,0,1)",
+            "table(0,-1,0,1,0)", "apply(0)", "lay()").sends(0, "01").sends(1, "02").sends(2, "03").then("run(9) -> 3");
+        for (int number = 3; number < 128; number += 25) {
+            run.times(25, "packet()").then("run(30) -> 25");
+        }
+        run.sends(128, "10").sends(129, "2055").sends(130, "30").then("run(9) -> 3").out(128, 0, 0, 77, 1)
+            .bytes(128, "21").bytes(129, "4155").bytes(130, "61").out(127, 0, 2, -1, -1);
+    }
+
+    static void promise21_run_entriesBehindADroppedPacket() {
+        Run run = new Run(TALLY).sends(1, "09").then("key(1,255,0,0)").times(18, "insert(0,0,0,0,0); remove(0)")
+            .then("run(40) -> 37").out(1, 0, 1);
+        for (int i = 1; i <= 18; i++) {
+            run.out(2 * i, 1, 0).out(2 * i + 1, 2, 0);
+        }
+    }
+
     static void promise22_out_noSuchOperation() {
         new Run(LAID, "packet()", "packet()", "run(9)").each("out(#,0) -> NONE", 2, -1, 64, MIN, MAX)
             .each("out(#,4) -> NONE", 2, -1, 64, MIN, MAX).then("out(1,0) -> 0", "out(0,0) -> 0");

@@ -173,6 +173,25 @@ public final class TapeTests {
             .sends(0, "11223344").then("run(2)", "out(0,1) -> 2");
     }
 
+    static void promise17_packet_eachFieldASecondTime() {
+        for (int field = 0; field < 16; field++) {
+            new Run().times(16, "field(4)").then("state(" + field + ",-1,-1,-1,-1)", "state(" + field + ",-1,-1,-1,-1)",
+                "otherwise(0,1)", "lay()").sends(0, "FFFF").then("run(2)").out(0, 0, 2, -1, -1, 1);
+        }
+    }
+
+    static void promise17_packet_statesWithoutFieldsComeAgain() {
+        // State i goes on to state 4 + i, which reads field i and comes back to state 0, while field i is 0.
+        Run run = new Run().times(4, "field(8)").times(4, "state(-1,-1,-1,-1,#)").times(4, "state(#,-1,-1,-1,-1)");
+        for (int i = 0; i < 4; i++) {
+            run.then("choice(" + i + ",0,255," + (4 + i) + ")", "otherwise(" + i + "," + (i < 3 ? i + 1 : -1) + ")",
+                "otherwise(" + (4 + i) + ",0)");
+        }
+        run.then("lay()").sends(0, "01020304").sends(1, "0102030405").sends(2, "01020300").sends(3, "010203")
+            .sends(4, "00020304").then("run(9)", "out(0,1) -> 0", "out(1,1) -> 0", "out(2,1) -> 2", "out(3,1) -> 2",
+                "out(4,1) -> 2");
+    }
+
     static void promise17_packet_aStateThatComesRoundWithAField() {
         new Run("field(8)", "state(0,-1,-1,-1,0)", "choice(0,7,255,0)", "lay()").sends(0, "0707").sends(1, "08")
             .then("run(9)", "out(0,1) -> 2", "out(1,1) -> 0");

@@ -27,6 +27,27 @@ public final class TellTests {
         }
     }
 
+    static void promise03_field_laterDoingsSeeTheWordThatWasCut() {
+        cutThenCopied("C00C", "0,2,0xABC,0");
+        cutThenCopied("4004", "1,2,0,0");
+        cutThenCopied("9009", "2,2,0,5");
+        cutThenCopied("B00B", "3,2,0,0");
+        cutThenCopied("D00D", "3,2,1,0");
+        cutThenCopied("E00E", "7,1,0,0xABE", "8,2,0,1");
+    }
+
+    /** Field 2, of 4 bits, gets a longer word, and field 3, of 12 bits, becomes, or grows by, what field 2 is then. */
+    private static void cutThenCopied(String want, String... doings) {
+        for (String later : new String[] {"1,3,2,0", "2,3,2,0"}) {
+            Run run = new Run("field(16)", "field(16)", "field(4)", "field(12)", "state(0,1,2,3,-1)", "action()");
+            for (String doing : doings) {
+                run.then("doing(0," + doing + ")");
+            }
+            run.then("doing(0," + later + ")", ONE_STEP, "key(0x1234,-1,0,0)", "insert(0,0,0,0xAAB,0xCCD)")
+                .sends(1, "123456780000").then("run(9)").bytes(1, "12345678" + want);
+        }
+    }
+
     static void promise03_field_all16Taken() {
         new Run().times(16, "field(8) -> #").then("field(1) -> ISE", "field(32) -> ISE", "state(15,-1,-1,-1,-1) -> 0",
             "state(16,-1,-1,-1,-1) -> IOOBE");
